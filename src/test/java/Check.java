@@ -1,0 +1,76 @@
+import java.nio.charset.StandardCharsets;
+import java.util.NoSuchElementException;
+
+/** What the tests share: feeding texts, comparing answers, ending with the exit code. */
+final class Check {
+    private static int wrong = 0;
+    private static int made = 0;
+
+    private Check() {
+    }
+
+    static void due(String call, long got, long want) {
+        made++;
+        if (got != want) {
+            wrong++;
+            System.out.println(call + " answered " + got + ", due is " + want);
+        }
+    }
+
+    static void due(String call, boolean got, boolean want) {
+        due(call, got ? 1L : 0L, want ? 1L : 0L);
+    }
+
+    static void throwsNoSuch(String call, TaleSums x, int i, int what) {
+        boolean thrown = false;
+        try {
+            x.sentence(i, what);
+        } catch (NoSuchElementException e) {
+            thrown = true;
+        }
+        due(call + " throws", thrown, true);
+    }
+
+    /** Feeds a text of signs 1 to 255; the last answer of feed(). */
+    static int feed(TaleSums x, String text) {
+        byte[] bytes = text.getBytes(StandardCharsets.ISO_8859_1);
+        int[] numbers = new int[5];
+        int last = x.count(0);
+        for (int at = 0; at < bytes.length; at += 20) {
+            for (int k = 0; k < 5; k++) {
+                numbers[k] = 0;
+                for (int j = 0; j < 4; j++) {
+                    int place = at + 4 * k + j;
+                    numbers[k] = numbers[k] << 8 | (place < bytes.length ? bytes[place] & 255 : 0);
+                }
+            }
+            last = x.feed(numbers[0], numbers[1], numbers[2], numbers[3], numbers[4]);
+        }
+        return last;
+    }
+
+    static int faultOf(String text) {
+        TaleSums x = new TaleSums();
+        feed(x, text);
+        return x.fault();
+    }
+
+    static TaleSums told(String text) {
+        TaleSums x = new TaleSums();
+        feed(x, text);
+        due("tale() of " + text, x.tale(), true);
+        return x;
+    }
+
+    static void answers(TaleSums x, long top, long bottom) {
+        due("answer(0)", x.answer(0), top);
+        due("answer(1)", x.answer(1), bottom);
+    }
+
+    static void finish(String test) {
+        System.out.println(test + ": " + made + " answers looked at, " + wrong + " wrong");
+        if (wrong != 0) {
+            System.exit(1);
+        }
+    }
+}
