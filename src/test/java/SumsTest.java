@@ -123,6 +123,17 @@ public final class SumsTest {
                 + "how many nuts have ann and bob?");
         Check.due("enough() of a sum", pair.enough(), 4);
         Check.due("idle() of a sum", pair.idle(), 7);
+        TaleSums round = Check.told("ann has 2 times as many nuts as bob.ann has 3 times as many nuts as bob."
+                + "ann has 0 nuts.how many nuts has bob?");
+        Check.due("idle() of a round", round.idle(), 7);
+        Check.due("enough() of a round", round.enough(), 3);
+        round.put(1, 2);
+        Check.due("idle() with another number", round.idle(), 3);
+        Check.due("enough() with another number", round.enough(), 5);
+        Check.feed(round, "bob has 1 nuts.how many nuts has bob?");
+        Check.due("tale()", round.tale(), true);
+        Check.due("idle() of another tale", round.idle(), 0);
+        Check.due("enough() of another tale", round.enough(), 1);
     }
 
     private static void lacks(String text, int want) {
