@@ -293,7 +293,7 @@ public final class TaleSums {
 
         /** Which entry of a list, whose entries have so many letters each, the next WORD is. */
         private int find(String list, int entries, int letters) {
-            if (to - from != letters || entries * letters > list.length()) {
+            if (to - from != letters || to > length || entries * letters > list.length()) {
                 return NONE;
             }
             for (int i = 0; i < entries; i++) {
@@ -309,7 +309,7 @@ public final class TaleSums {
         }
 
         int takeNumber() {
-            if (from >= to || to - from > MOST_DIGITS) {
+            if (from >= to || to > length || to - from > MOST_DIGITS) {
                 return NONE;
             }
             int number = 0;
