@@ -1,10 +1,20 @@
+import java.io.IOException;
 import java.nio.charset.StandardCharsets;
+import java.nio.file.Files;
+import java.nio.file.Path;
 import java.util.NoSuchElementException;
 
 /** What the tests share: feeding texts, comparing answers, ending with the exit code. */
 final class Check {
+    static final String[] NAMES = {"ann", "bob", "cat", "dan", "eve", "fay", "gus", "hal"};
+    static final String[] UNITS = {"nuts", "figs", "pies", "eggs"};
+    private static final Path DOCUMENT = Path.of("..", "shared", "DOC.md");
+
     private static int wrong = 0;
     private static int made = 0;
+    private static int sentences = 0;
+    private static String sentence = "";
+    private static String document = "";
 
     private Check() {
     }
@@ -13,8 +23,27 @@ final class Check {
         made++;
         if (got != want) {
             wrong++;
-            System.out.println(call + " answered " + got + ", due is " + want);
+            System.out.println(sentence + call + " answered " + got + ", due is " + want);
         }
+    }
+
+    /** What follows tests this sentence of the document, which must stand there word by word. */
+    static void sentence(String words) {
+        sentences++;
+        sentence = "\"" + words + "\": ";
+        due("the document has the sentence", document().contains(words), true);
+    }
+
+    private static String document() {
+        if (document.isEmpty()) {
+            try {
+                document = Files.readString(DOCUMENT);
+            } catch (IOException e) {
+                System.out.println("no document at " + DOCUMENT);
+                document = "none";
+            }
+        }
+        return document;
     }
 
     static void due(String call, boolean got, boolean want) {
@@ -68,7 +97,8 @@ final class Check {
     }
 
     static void finish(String test) {
-        System.out.println(test + ": " + made + " answers looked at, " + wrong + " wrong");
+        String of = sentences == 0 ? "" : " for " + sentences + " sentences of the document";
+        System.out.println(test + ": " + made + " answers looked at" + of + ", " + wrong + " wrong");
         if (wrong != 0) {
             System.exit(1);
         }

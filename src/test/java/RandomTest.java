@@ -3,13 +3,13 @@ import java.util.ArrayList;
 import java.util.List;
 import java.util.Random;
 
-/** Many made tales, two an object: each answer of the class against SlowTale's. */
+/** Many made tales: each answer of the class against SlowTale's, with fewer than 512 calls an object. */
 public final class RandomTest {
     private static final String[] ODD_WORDS = {"ann", "bob", "has", "have", "and", "nuts", "figs", ".", "?", "5", "1000",
         "12", "1", "times", "as", "many", "than", "to", "how", "had", "more", "fewer", "5a", "zed", "!", "A", "\t", ""};
 
     private final Random random;
-    private final TaleSums x = new TaleSums();
+    private TaleSums x;
     private int names;
     private int units;
 
@@ -155,12 +155,17 @@ public final class RandomTest {
     }
 
     private void oneTale() {
+        x = new TaleSums();
+        if (random.nextBoolean()) {
+            Check.feed(x, madeTale());
+            Check.due("tale() of an earlier one", x.tale(), true);
+        }
         String text = madeTale();
         SlowTale slow = new SlowTale(text);
         Check.feed(x, text);
         Check.due("fault() of " + text, x.fault(), slow.fault);
         Check.due("tale() of " + text, x.tale(), true);
-        compare(text, x, slow);
+        compare(text, slow);
         List<int[]> puts = new ArrayList<>();
         for (int i = 0; i < 4 && !slow.sentences.isEmpty(); i++) {
             int which = random.nextInt(slow.sentences.size());
@@ -171,7 +176,7 @@ public final class RandomTest {
             Check.due("put of " + text, x.put(which, number), true);
             Check.due("count(4)", x.count(4), puts.size());
         }
-        compare(text + " with puts", x, slow);
+        compare(text + " with puts", slow);
         for (int i = puts.size() - 1; i >= 0; i--) {
             slow.sentences.get(puts.get(i)[0])[4] = puts.get(i)[1];
             Check.due("undo() of " + text, x.undo(), puts.get(i)[0]);
@@ -184,7 +189,7 @@ public final class RandomTest {
         return value == null ? TaleSums.UNTOLD : value[what].longValueExact();
     }
 
-    private static void compare(String text, TaleSums x, SlowTale slow) {
+    private void compare(String text, SlowTale slow) {
         Check.due("sentences()", x.sentences(), slow.sentences.size());
         for (int i = 0; i < slow.sentences.size(); i++) {
             for (int what = 0; what < 7; what++) {
@@ -206,18 +211,18 @@ public final class RandomTest {
         }
         Check.due("count(1)", x.count(1), Integer.bitCount(slow.facts()));
         Check.due("count(2)", x.count(2), slow.stages);
-        compareAmounts(text, x, slow);
+        compareAmounts(text, slow);
     }
 
-    private static void compareAmounts(String text, TaleSums x, SlowTale slow) {
+    /** One STAGE a time: all of them would be more calls than an object is used for. */
+    private void compareAmounts(String text, SlowTale slow) {
+        int stage = random.nextInt(slow.stages);
+        BigInteger[][] told = slow.amounts(stage);
         int settled = 0;
-        for (int stage = 0; stage < slow.stages; stage++) {
-            BigInteger[][] told = slow.amounts(stage);
-            for (int k = 0; k < 32; k++) {
-                Check.due("amount() of " + text, x.amount(k % 8, k / 8, stage, 0), part(told[k], 0));
-                Check.due("amount() of " + text, x.amount(k % 8, k / 8, stage, 1), part(told[k], 1));
-                settled += stage == 0 && told[k] != null ? 1 : 0;
-            }
+        for (int k = 0; k < 32; k++) {
+            Check.due("amount() of " + text, x.amount(k % 8, k / 8, stage, 0), part(told[k], 0));
+            Check.due("amount() of " + text, x.amount(k % 8, k / 8, stage, 1), part(told[k], 1));
+            settled += told[k] != null ? 1 : 0;
         }
         Check.due("count(3) of " + text, x.count(3), settled);
     }
