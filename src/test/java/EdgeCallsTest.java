@@ -237,7 +237,8 @@ public final class EdgeCallsTest {
         Check.due("the first one again", x.tale(), true);
         Check.answers(x, 4, 1);
         String moves = SORTS[5] + SORTS[6] + SORTS[7] + SORTS[4] + SORTS[3];
-        String[] earlier = {moves + moves + ASK, moves + moves, moves + "how many eggs have gus and hal?", moves + "zed"};
+        String[] earlier = {moves + moves + ASK, moves + moves, moves + "how many eggs have gus and hal?", moves + "zed",
+            SORTS[0] + SORTS[0] + SORTS[6] + SORTS[1] + ASK, SORTS[0] + SORTS[7] + "zed"};
         String[] later = {"ann has 3 nuts.ann eats 2 nuts." + ASK, "ann eats 2 nuts.ann and bob have 7 nuts." + ASK, ASK};
         for (String one : earlier) {
             for (String other : later) {

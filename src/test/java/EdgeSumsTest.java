@@ -1,3 +1,9 @@
+import java.math.BigInteger;
+import java.util.ArrayList;
+import java.util.Collections;
+import java.util.List;
+import java.util.Random;
+
 /** The edges that the document's Terms name of AMOUNTS and what the FACTS settle: a test for each sentence. */
 public final class EdgeSumsTest {
     private static final long UNTOLD = TaleSums.UNTOLD;
@@ -22,6 +28,7 @@ public final class EdgeSumsTest {
         strange();
         firstStrange();
         lowestTerms();
+        largestNumbers();
         Check.finish("EdgeSumsTest");
     }
 
@@ -354,6 +361,15 @@ public final class EdgeSumsTest {
         answered("ann has 999 nuts." + times, 333, 2);
         answered("ann has 0 nuts.ann eats 4 nuts." + times, -2, 3);
         answered("ann has 0 nuts.ann eats 6 nuts." + times, -1, 1);
+        for (String first : Check.NAMES) {
+            for (String second : Check.NAMES) {
+                if (!first.equals(second)) {
+                    String other = times.replace("bob", "#").replace("ann", first).replace("#", second);
+                    answered(first + " has 4 nuts." + other, 2, 3);
+                    answered(other.replace("how", first + " has 18 nuts.how"), 3, 1);
+                }
+            }
+        }
         TaleSums x = Check.told("ann has 0 nuts.ann eats 4 nuts." + times);
         amount(x, at(1, 0, 0), -2, 3);
         amount(x, at(1, 0, 1), -2, 3);
@@ -368,5 +384,26 @@ public final class EdgeSumsTest {
         answered(chain + "how many nuts has hal?", 1, 4782969);
         answered(chain + "hal buys 999 nuts.how many nuts has hal?", 999L * 4782969 + 1, 4782969);
         answered(chain + "how many nuts have gus and hal?", 10, 4782969);
+    }
+
+    /** Rounds of eight nines with the largest gifts bring the largest products: none may wrap around. */
+    private static void largestNumbers() {
+        Check.sentence("the question answered exactly if the tale settles it, else what lacks;");
+        Random random = new Random(8);
+        for (int tale = 0; tale < 200; tale++) {
+            List<String> names = new ArrayList<>(List.of(Check.NAMES));
+            Collections.shuffle(names, random);
+            StringBuilder text = new StringBuilder(names.get(0) + " buys 999 nuts.");
+            for (int i = 0; i < 8; i++) {
+                if (i == 2 + tale % 6) {
+                    text.append(names.get(i)).append(" gives 999 nuts to ").append(names.get(tale % 2)).append('.');
+                }
+                text.append(names.get(i)).append(" has ").append(random.nextInt(4) == 0 ? 8 : 9)
+                        .append(" times as many nuts as ").append(names.get((i + 1) % 8)).append('.');
+            }
+            text.append("how many nuts have ").append(names.get(3)).append(" and ").append(names.get(7)).append('?');
+            BigInteger[] exact = new SlowTale(text.toString()).answer();
+            answered(text.toString(), exact[0].longValueExact(), exact[1].longValueExact());
+        }
     }
 }
